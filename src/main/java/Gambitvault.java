@@ -89,7 +89,7 @@ public final class Gambitvault {
     }
 
     public int legalMoves(int game) throws IndexOutOfBoundsException {
-        return gameAt(game).board.countPermitted();
+        return gameAt(game).board.countPermitted(SQUARES * SQUARES);
     }
 
     public boolean isInCheck(int game) throws IndexOutOfBoundsException {
@@ -366,7 +366,7 @@ public final class Gambitvault {
     private char carryOut(Game game, int from, int to) {
         game.play(from, to);
         openings.enter(game.board, game.number);
-        char verdict = game.judge(game.board.isAnyPermitted());
+        char verdict = game.judge(game.board.countPermitted(1) > 0);
         if (verdict == 'w') {
             finish(game, WHITE_WON);
         } else if (verdict == 'b') {
@@ -468,34 +468,20 @@ public final class Gambitvault {
             boolean isLoud = isPawn || squares[to] != EMPTY;
             int row = to / SIDE;
             boolean isCrowned = isPawn && row == (piece > 0 ? SIDE - 1 : 0);
-            squares[to] = isCrowned ? piece * QUEEN : piece;
+            squares[to] = !isCrowned ? piece : piece > 0 ? QUEEN : -QUEEN;
             squares[from] = EMPTY;
             isWhiteNext = !isWhiteNext;
             return isLoud;
         }
 
-        boolean isAnyPermitted() {
-            for (int from = 0; from < SQUARES; from++) {
-                if (countPermittedFrom(from) > 0) {
-                    return true;
-                }
-            }
-            return false;
-        }
-
-        int countPermitted() {
+        /** Returns the number of legal moves, or, if there are more, as many as are enough. */
+        int countPermitted(int enough) {
             int count = 0;
             for (int from = 0; from < SQUARES; from++) {
-                count += countPermittedFrom(from);
-            }
-            return count;
-        }
-
-        int countPermittedFrom(int from) {
-            int count = 0;
-            for (int to = 0; to < SQUARES; to++) {
-                if (permits(from, to)) {
-                    count++;
+                for (int to = 0; to < SQUARES && count < enough; to++) {
+                    if (permits(from, to)) {
+                        count++;
+                    }
                 }
             }
             return count;
@@ -562,24 +548,21 @@ public final class Gambitvault {
             int along = to % SIDE - from % SIDE;
             int most = Math.max(Math.abs(up), Math.abs(along));
             int least = Math.min(Math.abs(up), Math.abs(along));
+            int step = Integer.signum(up) * SIDE + Integer.signum(along);
             switch (Math.abs(piece)) {
                 case PAWN:
                     return up == (piece > 0 ? 1 : -1) && most == 1 && least == 1;
                 case KNIGHT:
                     return most == 2 && least == 1;
                 case ROOK:
-                    return most > 0 && least == 0 && isWayFree(from, to, stepOf(up, along));
+                    return most > 0 && least == 0 && isWayFree(from, to, step);
                 case QUEEN:
-                    return most > 0 && (least == 0 || least == most) && isWayFree(from, to, stepOf(up, along));
+                    return most > 0 && (least == 0 || least == most) && isWayFree(from, to, step);
                 case KING:
                     return most == 1;
                 default:
                     return false;
             }
-        }
-
-        static int stepOf(int up, int along) {
-            return Integer.signum(up) * SIDE + Integer.signum(along);
         }
 
         boolean isWayFree(int from, int to, int step) {

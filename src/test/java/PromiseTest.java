@@ -375,6 +375,13 @@ public final class PromiseTest {
         due("offer: two finals only", true, x.offer(4));
         x.resign(4);
         check.thrown("offer: final", NOT_NOW, () -> x.offer(4));
+        Gambitvault y = withGame();
+        play(y, 0, 112);
+        whiteWinsBehind(y, 112, 3);
+        check.thrown("offer: lost for black", BAD_STATE, () -> y.offer(0));
+        check.thrown("offer: by a throw, none", NONE, () -> y.take(0));
+        y.annul(1);
+        due("offer: the first", true, y.offer(0));
     }
 
     /** Games in which white resigns behind a first move and one of black. */
