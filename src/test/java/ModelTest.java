@@ -9,7 +9,6 @@ import java.util.TreeMap;
  * has to be the same. A call that throws and yet changes something shows in the answers behind it.
  */
 public final class ModelTest {
-    private static final int CALLS = 512;
     private static final int RUNS = 1500;
     // Chance alone hardly comes to the ends of these.
     private static final int[][] SCRIPTS = {
@@ -49,7 +48,7 @@ public final class ModelTest {
     }
 
     private void run() {
-        while (calls < CALLS && check.wrong() == 0) {
+        while (calls < Calls.MOST && check.wrong() == 0) {
             if (model.count() == 0 || random.nextInt(style == 4 ? 25 : 80) == 0) {
                 call("begin", member(), member(), 0);
             } else if (random.nextInt(100) < 55) {
@@ -197,12 +196,12 @@ public final class ModelTest {
 
     private void call(String name, int a, int b, int c) {
         calls++;
-        if (calls > CALLS) {
+        if (calls > Calls.MOST) {
             return;
         }
         told.append(' ').append(name).append('(').append(a).append(", ").append(b).append(", ").append(c).append(')');
         Object want = Check.answerOf(() -> ofModel(name, a, b, c));
-        Object got = Check.answerOf(() -> ofVault(name, a, b, c));
+        Object got = Calls.answer(vault, name, a, b, c);
         check.due("call " + calls + " " + name + "(" + a + ", " + b + ", " + c + ")", want, got);
     }
 
@@ -243,46 +242,6 @@ public final class ModelTest {
             case "drawnShare" -> model.drawnShare();
             case "meanRating" -> model.meanRating();
             default -> model.isSound();
-        };
-    }
-
-    private Object ofVault(String name, int a, int b, int c) {
-        return switch (name) {
-            case "begin" -> vault.begin(a, b);
-            case "move" -> vault.move(a, b, c);
-            case "isLegal" -> vault.isLegal(a, b, c);
-            case "legalMoves" -> vault.legalMoves(a);
-            case "isInCheck" -> vault.isInCheck(a);
-            case "seal" -> vault.seal(a, b, c);
-            case "open" -> vault.open(a, b);
-            case "offer" -> vault.offer(a);
-            case "take" -> vault.take(a);
-            case "resign" -> vault.resign(a);
-            case "annul" -> vault.annul(a);
-            case "stateOf" -> vault.stateOf(a);
-            case "result" -> vault.result(a);
-            case "isWhite" -> vault.isWhite(a);
-            case "moves" -> vault.moves(a);
-            case "moveAt" -> vault.moveAt(a, b);
-            case "pieceAt" -> vault.pieceAt(a, b);
-            case "quiet" -> vault.quiet(a);
-            case "repeats" -> vault.repeats(a);
-            case "seen" -> vault.seen(a);
-            case "finals" -> vault.finals(a);
-            case "points" -> vault.points(a);
-            case "isLost" -> vault.isLost(a, b == 1);
-            case "rating" -> vault.rating(a);
-            case "copy" -> vault.copy(a);
-            case "copied" -> vault.copied(a);
-            case "hasGap" -> vault.hasGap(a);
-            case "isWhole" -> vault.isWhole(a);
-            case "damage" -> vault.damage(a, b);
-            case "gaps" -> vault.gaps();
-            case "games" -> vault.games();
-            case "allMoves" -> vault.allMoves();
-            case "drawnShare" -> vault.drawnShare();
-            case "meanRating" -> vault.meanRating();
-            default -> vault.isSound();
         };
     }
 }
