@@ -107,7 +107,7 @@ final class Model {
         }
     }
 
-    private static String after(String position, int move) {
+    static String after(String position, int move) {
         char[] board = position.toCharArray();
         int from = move / 100;
         int to = move % 100;
@@ -123,7 +123,7 @@ final class Model {
         return new String(board);
     }
 
-    private static String passed(String position) {
+    static String passed(String position) {
         return position.substring(0, 36) + (whiteMoves(position) ? 'b' : 'w');
     }
 
@@ -138,6 +138,10 @@ final class Model {
         return false;
     }
 
+    static boolean isInCheck(String position) {
+        return takesKing(passed(position));
+    }
+
     static List<Integer> legal(String position) {
         List<Integer> all = new ArrayList<>();
         for (int move : rawMoves(position)) {
@@ -148,7 +152,7 @@ final class Model {
         return all;
     }
 
-    private static String mirrored(String position) {
+    static String mirrored(String position) {
         StringBuilder text = new StringBuilder();
         for (int row = 0; row < 6; row++) {
             text.append(new StringBuilder(position.substring(row * 6, row * 6 + 6)).reverse());

@@ -147,6 +147,16 @@ public final class PromiseEdgesTest {
                 annul 1 = f
                 legalMoves 1 = 0
                 """);
+        on("5: a move to the square 0, and one to the square 35, are counted").rows("""
+                begin 0 1 = 0
+                line 0 612 2418 6 3024 = u
+                isLegal 0 6 0 = true
+                legalMoves 0 = 9
+                begin 0 1 = 1
+                line 1 612 2923 1218 3529 713 = u
+                isLegal 1 29 35 = true
+                legalMoves 1 = 10
+                """);
         on("6: whatever the state of the game").rows("""
                 begin 0 1 = 0
                 line 0 415 3423 = u

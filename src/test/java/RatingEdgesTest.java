@@ -1,10 +1,8 @@
-import java.lang.reflect.Field;
-
 /** The document's "Ratings": each sentence of it that names a boundary, by a run of calls of its own. */
 public final class RatingEdgesTest {
     private static final Check check = new Check();
 
-    public static void main(String[] args) throws ReflectiveOperationException {
+    public static void main(String[] args) {
         atFirst();
         aGameThatBecomesFinal();
         inDoubles();
@@ -130,7 +128,7 @@ public final class RatingEdgesTest {
         }
     }
 
-    private static void atLeastAndAtMost() throws ReflectiveOperationException {
+    private static void atLeastAndAtMost() {
         // No 12 games bring two ratings so far apart: they are put there from outside.
         apart("d at most 2.0: just that", 1500.0, 2300.0, 32.0, 0.0);
         apart("d at most 2.0: a little less", 1500.0, 2299.0, 32.0 * (1.0 - 0.000625), 32.0 * -0.000625);
@@ -143,11 +141,10 @@ public final class RatingEdgesTest {
     }
 
     /** Looks at what white gets by a win and by a loss if the ratings are those. */
-    private static void apart(String sentence, double white, double black, double byWin, double byLoss)
-            throws ReflectiveOperationException {
+    private static void apart(String sentence, double white, double black, double byWin, double byLoss) {
         for (int result = 0; result <= 2; result += 2) {
             Script run = on(sentence + ", result " + result).row("begin 0 1 = 0");
-            double[] ratings = ratingsOf(run.club);
+            double[] ratings = Inside.ratings(run.club);
             ratings[0] = white;
             ratings[1] = black;
             endBy(run, 0, result);
@@ -161,23 +158,11 @@ public final class RatingEdgesTest {
         return Math.abs(due - got) < 1e-6;
     }
 
-    private static double[] ratingsOf(Gambitvault club) throws ReflectiveOperationException {
-        Object book = in(club, "book");
-        return (double[]) in(book, "ratings");
-    }
-
-    private static Object in(Object holder, String name) throws ReflectiveOperationException {
-        Field field = holder.getClass().getDeclaredField(name);
-        field.setAccessible(true);
-        return field.get(holder);
-    }
-
     private static void annulledAndPaidOutAnew() {
         for (int annulled = 0; annulled < 3; annulled++) {
             Script run = on("ratings are those of all other final games: without game " + annulled);
             int[][] games = {{0, 1, 2}, {1, 2, 0}, {0, 2, 2}};
-            double[] due = new double[10];
-            java.util.Arrays.fill(due, 1500.0);
+            double[] due = atFirst(10);
             for (int game = 0; game < 3; game++) {
                 run.row("begin " + games[game][0] + " " + games[game][1] + " = " + game);
                 endBy(run, game, games[game][2]);
@@ -225,21 +210,23 @@ public final class RatingEdgesTest {
     }
 
     private static void inTheOrderOfTheirEnds() {
-        int[][] ends = {{2, 0, 2}, {0, 1, 2}, {1, 2, 0}, {0, 2, 0}};
-        int[] order = {3, 1, 2, 0};
-        double[] due = new double[10];
-        java.util.Arrays.fill(due, 1500.0);
+        int[][] games = {{2, 0, 2}, {0, 1, 2}, {1, 2, 2}, {0, 2, 0}};
+        int[] order = {2, 0, 3, 1};
+        double[] due = atFirst(10);
+        double[] byNumber = atFirst(10);
         Script run = on("paid out anew in the order in which they became final, not in that of their numbers");
-        for (int[] game : ends) {
+        for (int[] game : games) {
             run.row("begin " + game[0] + " " + game[1]);
+            pay(byNumber, game);
         }
         run.row("begin 0 1 = 4").row("resign 4 = 1");
         for (int game : order) {
-            endBy(run, game, ends[game][2]);
-            pay(due, ends[game]);
+            endBy(run, game, games[game][2]);
+            pay(due, games[game]);
         }
         run.row("annul 4 = f");
         for (int member = 0; member < 3; member++) {
+            check.due("the order shows in the rating of " + member, true, due[member] != byNumber[member]);
             run.row("rating " + member + " = " + due[member]);
         }
         run.row("begin 1 0 = 5");
@@ -251,10 +238,15 @@ public final class RatingEdgesTest {
         run.row("isSound = true");
     }
 
+    private static double[] atFirst(int members) {
+        double[] ratings = new double[members];
+        java.util.Arrays.fill(ratings, 1500.0);
+        return ratings;
+    }
+
     private static void theMean() {
         Script run = on("the mean of all members, added from the member 0 on");
-        double[] due = new double[10];
-        java.util.Arrays.fill(due, 1500.0);
+        double[] due = atFirst(10);
         int unlike = 0;
         for (int i = 0; i < 12; i++) {
             int[] game = {i * 7 % 10, (i * 7 + 3 + i % 4) % 10, i % 5 == 0 ? 0 : 2};

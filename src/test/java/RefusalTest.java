@@ -307,9 +307,8 @@ public final class RefusalTest {
         for (int game = 0; game < games; game++) {
             int white = game % 10;
             answers.add(run.answer("take", game, 0, 0));
-            for (int member = 0; member < 5; member++) {
-                answers.add(run.answer("open", game, member, 0));
-            }
+            answers.add(run.answer("open", game, white, 0));
+            answers.add(run.answer("open", game, (white + 1) % 10, 0));
             answers.add(run.answer("offer", game, 0, 0));
             answers.add(run.answer("offer", game, 0, 0));
             answers.add(run.answer("move", game, 8, 14));

@@ -12,18 +12,19 @@ public final class UseTest {
     private static final Check check = new Check();
 
     public static void main(String[] args) {
-        List<Integer> line = longLine(LONGEST);
+        List<Integer> line = longLine(LONGEST, 0);
         check.due("a game of 511 moves", LONGEST, line.size());
         onlyMoves(line);
         askedAtTheEnd(line);
         sealedAtTheEnd(line);
+        twoLongGames();
         onlyQuestions();
         check.end("UseTest");
     }
 
     /** Moves that do not end the game: by chance, but without a third coming or a fortieth quiet move. */
-    private static List<Integer> longLine(int length) {
-        for (int seed = 0; seed < 1000; seed++) {
+    private static List<Integer> longLine(int length, int firstSeed) {
+        for (int seed = firstSeed; seed < firstSeed + 1000; seed++) {
             List<Integer> line = someLine(new Random(seed), length);
             if (line.size() == length) {
                 return line;
@@ -129,6 +130,26 @@ public final class UseTest {
         check.due("makes it", true, x.open(0, 1));
         check.due("is healed", moves + 1, x.copied(0));
         check.due("is sound, by the 512th call", true, x.isSound());
+    }
+
+    /** Some 500 positions of two games: none is taken for another one. */
+    private static void twoLongGames() {
+        int most = (Calls.MOST - 8) / 2;
+        List<Integer> first = longLine(most, 2000);
+        List<Integer> second = longLine(most, 4000);
+        check.due("the games begin in two ways", false, first.get(0).equals(second.get(0)));
+        for (int moves = most - 60; moves <= most; moves++) {
+            Gambitvault x = played(first, moves);
+            x.begin(1, 0);
+            for (int i = 0; i < moves; i++) {
+                x.move(1, second.get(i) / 100, second.get(i) % 100);
+            }
+            check.due("resigned behind " + moves, moves % 2 == 0 ? 1 : 0, x.resign(0));
+            check.due("the first one's position is seen behind " + moves, 1, x.seen(0));
+            check.due("the second one's position is seen behind " + moves, 1, x.seen(1));
+            check.due("the second one's position has no final game behind " + moves, 0, x.finals(1));
+            check.due("the first one's position has one behind " + moves, 1, x.finals(0));
+        }
     }
 
     private static void onlyQuestions() {
