@@ -321,8 +321,12 @@ public final class Gambitvault {
         return member >= 0 && member < MEMBERS;
     }
 
+    private static boolean isSquare(int square) {
+        return square >= 0 && square < SQUARES;
+    }
+
     private static void requireSquare(int square) {
-        if (square < 0 || square >= SQUARES) {
+        if (!isSquare(square)) {
             throw new IllegalArgumentException("squares are 0 to 35");
         }
     }
@@ -463,6 +467,10 @@ public final class Gambitvault {
 
         /** Returns whether the move took something or moved a pawn. */
         boolean make(int from, int to) {
+            // A sealed move and one that is replayed come from where they were kept, not from a caller.
+            if (!isSquare(from) || !isSquare(to)) {
+                return false;
+            }
             int piece = squares[from];
             boolean isPawn = piece == PAWN || piece == -PAWN;
             boolean isLoud = isPawn || squares[to] != EMPTY;
