@@ -39,9 +39,12 @@ public final class ModelTest {
         for (int seed = 0; seed < runs && check.wrong() == 0; seed++) {
             new ModelTest(seed, check, met).run();
         }
-        for (String what : List.of("ends m", "ends s", "ends 3", "ends q", "own mirror", "lost for white",
-                "lost for black", "seen in three", "healed", "crowned")) {
-            check.due("runs meet '" + what + "'", true, met.getOrDefault(what, 0) > 0);
+        // Fewer runs need not come to all of these.
+        if (runs >= RUNS) {
+            for (String what : List.of("ends m", "ends s", "ends 3", "ends q", "own mirror", "lost for white",
+                    "lost for black", "seen in three", "healed", "crowned")) {
+                check.due("runs meet '" + what + "'", true, met.getOrDefault(what, 0) > 0);
+            }
         }
         System.out.println("met: " + met);
         check.end("ModelTest");
